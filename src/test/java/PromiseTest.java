@@ -145,7 +145,11 @@ public final class PromiseTest {
         check.answers("6: last of 512", 511, () -> x.decode(511));
         x.drop(0);
         check.answers("5: all moved up", 510, () -> x.decode(511));
+        check.refuses("3: clash with 511 there", Check.REFUSED, () -> x.add(0x3ff, 3));
+        check.answers("11: clashed with", 2, () -> x.count(2));
         check.answers("3: room again", 511, () -> x.add(0x3ff, 0));
+        check.refuses("3: full again", Check.REFUSED, () -> x.add(0x3ff, 3));
+        check.answers("11: by 512 there is no clash any more", -1, () -> x.count(2));
     }
 
     private static long signsOf(String signs) {
