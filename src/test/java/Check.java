@@ -7,6 +7,7 @@ final class Check {
 
     private int right = 0;
     private int wrong = 0;
+    private String sentence = "";
 
     interface Call {
         long run();
@@ -14,6 +15,15 @@ final class Check {
 
     interface Deed {
         void run();
+    }
+
+    /** Runs the test of one sentence of the document; should it break off, the others still run. */
+    void sentence(String where, String words, Deed test) {
+        sentence = where + ", \"" + words + "\" ";
+        int before = right + wrong;
+        same("breaks off by", NOTHING, thrownBy(test));
+        same("has something to compare", "true", "" + (right + wrong > before + 1));
+        sentence = "";
     }
 
     void answers(String what, long due, Call call) {
@@ -33,7 +43,7 @@ final class Check {
             right++;
         } else {
             wrong++;
-            System.out.println(what + ": " + got + ", due is " + due);
+            System.out.println(sentence + what + ": " + got + ", due is " + due);
         }
     }
 

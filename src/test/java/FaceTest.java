@@ -5,7 +5,7 @@ import java.lang.reflect.Modifier;
 import java.util.Arrays;
 import java.util.TreeSet;
 
-/** The class shows the document's public face and not a member more. */
+/** The class shows the document's public face, not a member more, and keeps only its own rows. */
 public final class FaceTest {
     private static final String[] FACE = {
         "public PatternTree()",
@@ -38,7 +38,23 @@ public final class FaceTest {
             keepShown(seen, f.getModifiers(), f.toString());
         }
         check.same("the face", new TreeSet<>(Arrays.asList(FACE)).toString(), seen.toString());
+        check.sentence("Terms", "All memory is the class's own rows", () -> memory(check));
         check.end("FaceTest");
+    }
+
+    private static void memory(Check check) {
+        for (Field f : PatternTree.class.getDeclaredFields()) {
+            check.same(f.toString(), "true", "" + isOwnMemory(f));
+        }
+    }
+
+    /** Numbers and rows of numbers; what is static is shared by all objects, so it must be fixed. */
+    private static boolean isOwnMemory(Field f) {
+        Class<?> type = f.getType();
+        if (Modifier.isStatic(f.getModifiers())) {
+            return type.isPrimitive() && Modifier.isFinal(f.getModifiers());
+        }
+        return type.isPrimitive() || type.isArray() && type.getComponentType().isPrimitive();
     }
 
     private static void keepShown(TreeSet<String> seen, int modifiers, String member) {
