@@ -39,6 +39,7 @@ public final class FaceTest {
         }
         check.same("the face", new TreeSet<>(Arrays.asList(FACE)).toString(), seen.toString());
         check.sentence("Terms", "All memory is the class's own rows", () -> memory(check));
+        check.sentence("LANGUAGE.md, 1", "No private method bears the name of a public one", () -> names(check));
         check.end("FaceTest");
     }
 
@@ -55,6 +56,23 @@ public final class FaceTest {
             return type.isPrimitive() && Modifier.isFinal(f.getModifiers());
         }
         return type.isPrimitive() || type.isArray() && type.getComponentType().isPrimitive();
+    }
+
+    private static void names(Check check) {
+        for (Method m : PatternTree.class.getDeclaredMethods()) {
+            if (Modifier.isPrivate(m.getModifiers())) {
+                check.same(m.toString(), "false", "" + isOfFace(m.getName()));
+            }
+        }
+    }
+
+    private static boolean isOfFace(String name) {
+        for (String member : FACE) {
+            if (member.contains("." + name + "(")) {
+                return true;
+            }
+        }
+        return false;
     }
 
     private static void keepShown(TreeSet<String> seen, int modifiers, String member) {
