@@ -69,8 +69,7 @@ public final class PartitionTest {
         for (int i = 1; i < regions; i++) {
             int at = random.nextInt(all.size());
             Region one = all.get(at);
-            // The highest bit more often: halves of all words are where 64 bits can overflow.
-            long bit = 1L << (random.nextInt(8) == 0 ? length - 1 : random.nextInt(length));
+            long bit = 1L << random.nextInt(length);
             if ((one.care & bit) == 0) {
                 all.set(at, new Region(one.care | bit, one.want));
                 all.add(random.nextInt(all.size() + 1), new Region(one.care | bit, one.want | bit));
